@@ -41,8 +41,8 @@ final class Checks {
             return;
         }
         failed++;
-        System.out.println(test + ", promise " + promise + ": " + what
-                + ": due is " + want + ", but it is " + got);
+        String where = promise > 0 ? test + ", promise " + promise : test;
+        System.out.println(where + ": " + what + ": due is " + want + ", but it is " + got);
     }
 
     void end() {

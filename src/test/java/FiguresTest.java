@@ -44,6 +44,9 @@ public final class FiguresTest {
         check.due(1f, () -> house.covered(0), "all");
         house.paint(0, -1, 0, 0, 16, 1);
         check.due(240f / 256f, () -> house.covered(0), "less a row");
+        house.paint(2, 0, 0, 0, 1, 1);
+        house.paint(2, 9, 15, 15, 1, 1);
+        check.due(2f / 256f, () -> house.covered(2), "the first and the last area");
         check.fails(INDEX, () -> house.covered(3), "layer 3");
         check.fails(INDEX, () -> house.covered(-1), "layer -1");
     }
@@ -91,6 +94,13 @@ public final class FiguresTest {
      */
     private static void isSoundTells() {
         check.promise(41);
+        for (int layer = 0; layer < 3; layer++) {
+            tells("sizes", layer, 0, 9, false);
+            tells("sizes", layer, 9, 1, false);
+            tells("worths", layer, 0, 1, false);
+            tells("worths", layer, 9, 1, false);
+            tells("stored", layer, 256 + 255, 1, false);
+        }
         tells("sizes", 1, 3, 9, false);
         tells("worths", 2, 7, 1, false);
         tells("worths", 2, 1, -1, false);

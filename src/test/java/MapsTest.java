@@ -10,6 +10,7 @@ public final class MapsTest {
     public static void main(String[] args) {
         coarse();
         coarseTies();
+        coarseChains();
         coarseWrong();
         coarseAreas();
         name();
@@ -17,6 +18,7 @@ public final class MapsTest {
         placeBad();
         placesDoNotMeet();
         placesAtTheRim();
+        placesOfFirstAndLast();
         placeWrong();
         check.end();
     }
@@ -63,6 +65,28 @@ public final class MapsTest {
         house.paint(2, 7, 1, 0, 1, 2);
         house.paint(2, 9, 1, 2, 5, 1);
         check.due(8, () -> house.coarse(2, 3, 7), "the longest border ahead of the number");
+    }
+
+    private static void coarseChains() {
+        check.promise(34);
+        Overlayer house = inSession();
+        house.paint(0, 0, 2, 0, 2, 1);
+        house.paint(0, 8, 4, 0, 9, 1);
+        house.paint(0, 9, 0, 0, 2, 1);
+        house.paint(0, 9, 0, 1, 1, 1);
+        check.due(8, () -> house.coarse(0, 4, 0), "0 is joined to 8, as 9 is not the lowest");
+        check.due(8, () -> house.coarse(0, 4, 9), "9 follows to the sum, not to 0");
+        check.due(1, () -> house.coarseAreas(0, 4), "one is left");
+        house.paint(0, -1, 2, 0, 1, 1);
+        house.paint(0, -1, 3, 0, 1, 1);
+        check.due(9, () -> house.coarse(0, 4, 9), "no border is left");
+        house.paint(1, 0, 0, 0, 1, 3);
+        house.paint(1, 9, 1, 0, 1, 2);
+        check.due(0, () -> house.coarse(1, 3, 9), "the area 9 is joined to the area 0");
+        house.paint(1, 9, 1, 0, 4, 4);
+        check.due(9, () -> house.coarse(1, 4, 0), "the area 0 is joined to the area 9");
+        house.paint(1, -1, 1, 0, 1, 4);
+        check.due(0, () -> house.coarse(1, 4, 0), "borders are counted anew");
     }
 
     private static void coarseWrong() {
@@ -212,6 +236,36 @@ public final class MapsTest {
         house.paint(2, 1, 0, 14, 1, 2);
         house.name(2, 1, 1);
         check.due(14, () -> house.placeOf(2, 1), "of two ends of the map the lowest square");
+    }
+
+    private static void placesOfFirstAndLast() {
+        check.promise(37);
+        Overlayer house = inSession();
+        house.paint(0, 0, 0, 0, 3, 3);
+        house.paint(0, 9, 15, 15, 1, 1);
+        house.paint(0, 5, 15, 14, 1, 1);
+        house.paint(0, 6, 14, 15, 1, 1);
+        for (int area : new int[] {6, 9}) {
+            house.name(0, area, 1);
+        }
+        check.due(254, () -> house.placeOf(0, 6), "without regard to areas that have no name");
+        check.fails(NO_ELEMENT, () -> house.placeOf(0, 9), "right of the other name");
+        house.name(0, 6, 0);
+        check.due(255, () -> house.placeOf(0, 9), "the last square");
+        house.paint(0, 5, 14, 13, 1, 1);
+        house.paint(0, 9, 15, 12, 1, 1);
+        house.paint(0, 9, 13, 15, 1, 1);
+        house.name(0, 5, 1);
+        check.due(253, () -> house.placeOf(0, 9), "the middle is 14 and 14");
+        check.due(16 * 13 + 14, () -> house.placeOf(0, 5), "the middle is 14 and 13");
+        house.name(0, 0, 1);
+        check.due(17, () -> house.placeOf(0, 0), "the area 0");
+        house.paint(1, 1, 15, 15, 1, 1);
+        house.paint(1, 2, 15, 14, 1, 1);
+        house.name(1, 1, 1);
+        house.name(1, 2, 1);
+        check.due(255, () -> house.placeOf(1, 1), "a name on the last square");
+        check.fails(NO_ELEMENT, () -> house.placeOf(1, 2), "above it is no place");
     }
 
     private static void placeWrong() {

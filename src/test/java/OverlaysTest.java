@@ -112,15 +112,22 @@ public final class OverlaysTest {
         house.paint(1, 9, 3, 0, 1, 1);
         check.due(9, () -> house.match(0, 1, 1), "the greatest common size");
         check.due(1, () -> house.match(1, 4, 0), "the other way round");
+        house.paint(1, 0, 0, 0, 1, 1);
+        house.paint(1, -1, 1, 0, 7, 1);
+        check.due(0, () -> house.match(0, 1, 1), "a common size of 1, the area 0");
+        house.paint(2, 9, 15, 15, 1, 1);
+        house.paint(0, 9, 15, 15, 1, 1);
+        check.due(9, () -> house.match(0, 9, 2), "the last square");
+        house.paint(2, -1, 15, 15, 1, 1);
         check.fails(NO_ELEMENT, () -> house.match(0, 2, 1), "an area without squares");
         check.fails(NO_ELEMENT, () -> house.match(0, 1, 2), "a layer without areas");
         check.fails(ARGUMENT, () -> house.match(0, 10, 1), "area 10");
         check.fails(ARGUMENT, () -> house.match(0, -1, 1), "area -1");
         check.fails(INDEX, () -> house.match(0, 10, 0), "layers ahead of area");
-        check.fails(INDEX, () -> house.match(3, 0, 0), "first 3");
-        check.fails(INDEX, () -> house.match(0, 0, 3), "second 3");
-        check.fails(INDEX, () -> house.match(-1, 0, 0), "first -1");
-        check.fails(INDEX, () -> house.match(0, 0, -1), "second -1");
+        check.fails(INDEX, () -> house.match(3, 10, 0), "first 3 ahead of area");
+        check.fails(INDEX, () -> house.match(0, 10, 3), "second 3 ahead of area");
+        check.fails(INDEX, () -> house.match(-1, 10, 0), "first -1 ahead of area");
+        check.fails(INDEX, () -> house.match(0, 10, -1), "second -1 ahead of area");
     }
 
     private static void matchKind() {
@@ -140,9 +147,9 @@ public final class OverlaysTest {
         check.fails(ARGUMENT, () -> house.matchKind(0, 10, 1), "area 10");
         check.fails(ARGUMENT, () -> house.matchKind(0, -1, 1), "area -1");
         check.fails(INDEX, () -> house.matchKind(0, 10, 0), "layers ahead of area");
-        check.fails(INDEX, () -> house.matchKind(3, 0, 0), "first 3");
-        check.fails(INDEX, () -> house.matchKind(0, 0, 3), "second 3");
-        check.fails(INDEX, () -> house.matchKind(-1, 0, 0), "first -1");
-        check.fails(INDEX, () -> house.matchKind(0, 0, -1), "second -1");
+        check.fails(INDEX, () -> house.matchKind(3, 10, 0), "first 3 ahead of area");
+        check.fails(INDEX, () -> house.matchKind(0, 10, 3), "second 3 ahead of area");
+        check.fails(INDEX, () -> house.matchKind(-1, 10, 0), "first -1 ahead of area");
+        check.fails(INDEX, () -> house.matchKind(0, 10, -1), "second -1 ahead of area");
     }
 }

@@ -35,6 +35,10 @@ public final class RulesTest {
         house.begin(0);
         check.fails(STATE, () -> house.addRule('i', 0, 1), "in a session");
         check.fails(INDEX, () -> house.addRule('i', 1, 1), "layers ahead of the session");
+        check.fails(INDEX, () -> house.addRule('i', 3, 1), "first 3 ahead of the session");
+        check.fails(INDEX, () -> house.addRule('i', -1, 1), "first -1 ahead of the session");
+        check.fails(INDEX, () -> house.addRule('i', 1, 3), "second 3 ahead of the session");
+        check.fails(INDEX, () -> house.addRule('i', 1, -1), "second -1 ahead of the session");
         check.fails(ARGUMENT, () -> house.addRule('b', 1, 0), "kind ahead of the session");
         house.keep();
         check.due(4, () -> house.addRule('i', 2, 1), "the fifth rule");
@@ -120,5 +124,11 @@ public final class RulesTest {
         check.due(1, house::leastBroken, "all three with five");
         house.paint(2, 0, 0, 0, 1, 1);
         check.due(0, house::leastBroken, "rule 0 is broken at one");
+        house.paint(2, 0, 0, 0, 5, 1);
+        house.paint(1, 0, 0, 0, 8, 1);
+        house.paint(2, 0, 15, 15, 1, 1);
+        house.paint(1, 0, 15, 15, 1, 1);
+        house.paint(2, -1, 6, 0, 10, 1);
+        check.due(3, house::leastBroken, "the last rule is broken at two");
     }
 }

@@ -26,6 +26,7 @@ public final class SessionsTest {
         sign();
         keep();
         drop();
+        dropAll();
         dropLeaves();
         check.end();
     }
@@ -192,6 +193,12 @@ public final class SessionsTest {
         check.due(0, () -> house.value(0, 1), "its value, too");
         check.due(61 - 45, () -> house.value(0, 4), "the value went along");
         check.due(0, () -> house.split(0, 1, 5, 'x', 0), "an area without squares");
+        house.paint(2, 0, 0, 0, 16, 16);
+        check.due(16, () -> house.split(2, 0, 9, 'y', 15), "the last row");
+        check.due(15, () -> house.split(2, 0, 8, 'x', 15), "the last column less the last row");
+        check.due(15 * 15, () -> house.split(2, 0, 7, 'x', 0), "all the rest");
+        check.due(7, () -> house.areaAt(2, 0), "the square 0 among it");
+        check.due(9, () -> house.areaAt(2, 255), "the square 255 with the last row");
         house.paint(1, 0, 15, 15, 1, 1);
         check.due(1, () -> house.split(1, 0, 9, 'x', 15), "the line 15");
         check.due(1, () -> house.split(1, 9, 0, 'y', 15), "the line 15 along y");
@@ -239,6 +246,9 @@ public final class SessionsTest {
         house.setDivides(0, false);
         check.due(7, () -> house.merge(0, 9, 0), "in a layer that copies");
         check.due(0L, () -> house.values(0), "the value is lost in a layer that copies");
+        house.paint(1, 0, 0, 0, 16, 16);
+        check.due(256, () -> house.merge(1, 0, 9), "the whole layer");
+        house.paint(1, -1, 0, 0, 16, 16);
         check.fails(INDEX, () -> house.merge(3, 0, 1), "layer 3");
         check.fails(INDEX, () -> house.merge(-1, 0, 1), "layer -1");
         check.fails(ARGUMENT, () -> house.merge(0, 10, 1), "area 10");
@@ -368,6 +378,11 @@ public final class SessionsTest {
         check.due(3, house::keep, "the rule is mended");
         check.due(4, () -> house.areaAt(0, 51), "the squares stay behind a keep");
         check.due(true, house::isSound, "sound behind a keep");
+        house.begin(4);
+        house.paint(2, 1, 3, 3, 1, 1);
+        check.fails(UNSUPPORTED, house::keep, "the last rule is broken");
+        house.sign(1);
+        check.due(4, house::keep, "the last rule is signed");
     }
 
     private static void drop() {
@@ -397,6 +412,35 @@ public final class SessionsTest {
         check.due(1, () -> house.begin(2), "the time stays");
         house.paint(0, 7, 0, 0, 1, 1);
         check.due(30, () -> house.value(0, 1), "values are shared out by the sizes that are back");
+    }
+
+    private static void dropAll() {
+        check.promise(10);
+        Overlayer house = new Overlayer();
+        house.begin(0);
+        for (int layer = 0; layer < 3; layer++) {
+            for (int area = 0; area < 10; area++) {
+                house.paint(layer, area, area, layer, 2, 1);
+                house.setValue(layer, area, 100 * layer + area + 1);
+            }
+        }
+        house.keep();
+        house.begin(0);
+        for (int layer = 0; layer < 3; layer++) {
+            house.paint(layer, -1, 0, 0, 16, 16);
+        }
+        check.due(33, house::drop, "eleven squares in each layer");
+        for (int layer = 0; layer < 3; layer++) {
+            for (int area = 0; area < 10; area++) {
+                final int l = layer;
+                final int a = area;
+                // Each area but the last lost one of two squares with half of its value.
+                int value = 100 * l + a + 1;
+                int left = a < 9 ? value - value / 2 : value;
+                check.due(a < 9 ? 1 : 2, () -> house.size(l, a), "the size of each area is back");
+                check.due(left, () -> house.value(l, a), "the value of each area is back");
+            }
+        }
     }
 
     private static void dropLeaves() {

@@ -173,6 +173,13 @@ public final class SquaresTest {
         house.paint(0, 5, 15, 8, 1, 1);
         house.paint(0, 6, 0, 9, 1, 1);
         check.due(0, () -> house.border(0, 5, 6), "rows do not hang together at their ends");
+        house.paint(1, 8, 0, 0, 16, 16);
+        house.paint(1, 9, 0, 0, 1, 1);
+        check.due(2, () -> house.border(1, 9, 8), "at the square 0");
+        check.due(2, () -> house.border(1, 8, 9), "at the square 0, the other way round");
+        house.paint(1, 7, 15, 15, 1, 1);
+        check.due(2, () -> house.border(1, 7, 8), "at the square 255");
+        check.due(2, () -> house.border(1, 8, 7), "at the square 255, the other way round");
         check.fails(INDEX, () -> house.border(3, 0, 1), "layer 3");
         check.fails(INDEX, () -> house.border(-1, 0, 0), "layer ahead of areas");
         check.fails(ARGUMENT, () -> house.border(0, 10, 0), "area 10");
@@ -228,6 +235,12 @@ public final class SquaresTest {
         house.paint(0, 3, 8, 7, 1, 1);
         house.paint(0, 8, 8, 9, 1, 1);
         check.due(3, () -> house.nearest(0, 5), "of two neighbours the lowest");
+        house.paint(0, 0, 7, 8, 1, 1);
+        check.due(0, () -> house.nearest(0, 5), "the area 0");
+        house.paint(1, 9, 0, 0, 1, 1);
+        house.paint(1, 0, 15, 15, 1, 1);
+        check.due(0, () -> house.nearest(1, 9), "the area 0 across the map");
+        check.due(9, () -> house.nearest(1, 0), "the area 9 across the map");
         check.fails(INDEX, () -> house.nearest(3, 0), "layer 3");
         check.fails(INDEX, () -> house.nearest(-1, 10), "layer ahead of area");
         check.fails(ARGUMENT, () -> house.nearest(0, 10), "area 10");

@@ -14,6 +14,7 @@ public final class VersionsTest {
         conflicts();
         clashes();
         reconcileAlone();
+        reconcileCorners();
         reconcileSides();
         reconcileShares();
         reconcileWrong();
@@ -167,6 +168,24 @@ public final class VersionsTest {
         house.keep();
         check.due(1, () -> house.authorOf(0, 0, 2), "the session's author");
         check.due(true, house::isSound, "sound behind it");
+    }
+
+    private static void reconcileCorners() {
+        check.promise(28);
+        Overlayer house = new Overlayer();
+        house.begin(0);
+        house.paint(0, 1, 0, 0, 16, 16);
+        house.keep();
+        house.checkOut(0, 0, 0, 16, 16);
+        house.change(0, 0, 2);
+        house.change(0, 255, 3);
+        house.begin(0);
+        check.due(2, () -> house.reconcile(0, 'l'), "the first and the last square");
+        check.due(2, () -> house.areaAt(0, 0), "the first square");
+        check.due(3, () -> house.areaAt(0, 255), "the last square");
+        check.due(0, () -> house.reconcile(0, 'l'), "both are in the base now");
+        house.paint(0, 4, 0, 0, 16, 16);
+        check.due(0, () -> house.conflicts(0), "the layer alone changed all");
     }
 
     private static void reconcileSides() {
