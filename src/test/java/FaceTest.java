@@ -18,7 +18,7 @@ public final class FaceTest {
         Set<String> got = new TreeSet<>();
         Set<String> names = new TreeSet<>();
         for (Method method : Overlayer.class.getDeclaredMethods()) {
-            if (!Modifier.isPrivate(method.getModifiers())) {
+            if (!Modifier.isPrivate(method.getModifiers()) && !method.isSynthetic()) {
                 got.add(written(method));
                 names.add(method.getName());
             }
@@ -80,21 +80,24 @@ public final class FaceTest {
                 && made[0].getParameterCount() == 0, "one public constructor, of nothing");
     }
 
+    /** By rule 1 of the language: nothing else is seen, and no private method has such a name. */
     private static void nothingElse(Set<String> names) {
         for (Field field : Overlayer.class.getDeclaredFields()) {
             check.holds(Modifier.isPrivate(field.getModifiers()), field + " is private");
         }
-        for (Method method : Overlayer.class.getDeclaredMethods()) {
-            boolean isPrivate = Modifier.isPrivate(method.getModifiers());
-            check.holds(!isPrivate || !names.contains(method.getName()), method + " has a new name");
-        }
+        noPrivateNames(Overlayer.class, names);
         for (Class<?> inside : Overlayer.class.getDeclaredClasses()) {
             int modifiers = inside.getModifiers();
             boolean isHidden = !Modifier.isPublic(modifiers) && !Modifier.isProtected(modifiers);
             check.holds(isHidden && Modifier.isStatic(modifiers), inside + " is hidden and static");
-            for (Method method : inside.getDeclaredMethods()) {
-                check.holds(!names.contains(method.getName()), method + " has a new name");
-            }
+            noPrivateNames(inside, names);
+        }
+    }
+
+    private static void noPrivateNames(Class<?> holder, Set<String> names) {
+        for (Method method : holder.getDeclaredMethods()) {
+            boolean isPrivate = Modifier.isPrivate(method.getModifiers()) && !method.isSynthetic();
+            check.holds(!isPrivate || !names.contains(method.getName()), method + " has a new name");
         }
     }
 }

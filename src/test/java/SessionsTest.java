@@ -39,27 +39,31 @@ public final class SessionsTest {
 
     private static void newObject() {
         check.promise(1);
-        Overlayer house = new Overlayer();
         for (int layer = 0; layer < 3; layer++) {
-            for (int square = 0; square < 256; square++) {
-                final int l = layer;
-                final int s = square;
-                check.due(-1, () -> house.areaAt(l, s), "a square of a new house");
-                check.due(-1, () -> house.areaThen(l, s, 0), "a square of a new house by time 0");
-            }
-            for (int area = 0; area < 10; area++) {
-                final int l = layer;
-                final int a = area;
-                check.due(0, () -> house.size(l, a), "the size of a new area");
-                check.due(0, () -> house.value(l, a), "the value of a new area");
-                check.due(0, () -> house.name(l, a, 0), "the name of a new area");
-            }
+            newLayer(layer);
         }
+        Overlayer house = new Overlayer();
         check.fails(STATE, house::drop, "drop of a new house: no session");
         check.fails(NO_ELEMENT, () -> house.broken(0), "a rule of a new house");
         check.fails(NO_ELEMENT, () -> house.conflicts(0), "a version of a new house");
         check.due(true, house::isSound, "a new house is sound");
         check.due(0, () -> house.begin(0), "the time of a new house");
+    }
+
+    private static void newLayer(int layer) {
+        Overlayer now = new Overlayer();
+        Overlayer then = new Overlayer();
+        for (int each = 0; each < 256; each++) {
+            int square = each;
+            check.due(-1, () -> now.areaAt(layer, square), "a square of a new house");
+            check.due(-1, () -> then.areaThen(layer, square, 0), "one of a new house by time 0");
+        }
+        for (int each = 0; each < 10; each++) {
+            int area = each;
+            check.due(0, () -> now.size(layer, area), "the size of a new area");
+            check.due(0, () -> now.value(layer, area), "the value of a new area");
+            check.due(0, () -> now.name(layer, area, 0), "the name of a new area");
+        }
     }
 
     private static void begin() {
