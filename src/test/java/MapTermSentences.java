@@ -504,6 +504,18 @@ final class MapTermSentences {
         book.due(0, borders, h -> h.coarse(0, 4, 5), "of two borders of 3 the lower number");
         book.due(9, borders.with(h -> h.paint(0, -1, 0, 0, 1, 1)), h -> h.coarse(0, 4, 5),
                 "the longer border ahead of the lower number");
+        Scene alongX = Scene.BEGUN.with(house -> {
+            house.paint(0, 0, 0, 4, 10, 1);
+            house.paint(0, 5, 4, 4, 3, 1);
+            house.paint(0, 9, 4, 5, 3, 3);
+        });
+        book.due(9, alongX, h -> h.coarse(0, 4, 5), "3 pairs along y are more than 2 along x");
+        Scene alongY = Scene.BEGUN.with(house -> {
+            house.paint(0, 0, 4, 0, 1, 10);
+            house.paint(0, 5, 4, 4, 1, 3);
+            house.paint(0, 9, 5, 4, 3, 3);
+        });
+        book.due(9, alongY, h -> h.coarse(0, 4, 5), "3 pairs along x are more than 2 along y");
         Scene bordered = Scene.BEGUN.with(house -> {
             house.paint(0, 0, 0, 0, 1, 1);
             house.paint(0, 5, 4, 4, 2, 1);
